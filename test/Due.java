@@ -1,9 +1,12 @@
-/** Counts the calls of a test and tells those whose answer is not the one that is due. */
-final class Due {
+/** Counts the calls of a test and tells those whose answer is not the one that is due; tests stand under it. */
+class Due {
+  /** One of each kind, with hidden coins, short and long candles, cousins; 0 and 4 are lit. NightTest tells its night. */
+  static final String SIX = "p0430;p1350;p2240;p3620;p4530;p5710;h105;h320;c299;c401;t01;t13;t35;t23;l0;l4;";
+
   private static int asked = 0;
   private static int wrong = 0;
 
-  private Due() {}
+  Due() {}
 
   static void due(String call, long got, long want) {
     asked++;
