@@ -98,6 +98,17 @@ public final class ChanceTest extends Due {
     due("45: CANDLES of 20", x.lots(20, 77, 1), 20);
     x = of("p0400;p1000;t01;c016;");
     due("45: a NIGHT with its dusk: the one holds none", x.lots(1, 1, 0), 13);
+    x = of("p5000;l0;");
+    x.hours(5);
+    due("45: PAGES more, not all", x.lots(2, 3, 0), 16);
+    x = of("p0400;p1000;p0400;p1000;p0400;p1000;c009;c116;c220;c325;c413;c531;");
+    int[] seeds = {12345, Integer.MIN_VALUE, Integer.MAX_VALUE, 0, 99};
+    int[] pages = {587, 602, 604, 602, 607};
+    int[] dark = {103, 105, 105, 105, 100};
+    for (int i = 0; i < seeds.length; i++) {
+      due("45: PAGES of seed " + seeds[i], x.lots(20, seeds[i], 0), pages[i]);
+      due("45: CANDLES of seed " + seeds[i], x.lots(20, seeds[i], 1), dark[i]);
+    }
     due("45: nobody", new FasterForTheRich().lots(20, 1, 0), 0);
   }
 

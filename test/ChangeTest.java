@@ -297,13 +297,21 @@ public final class ChangeTest extends Due {
     due("46: another", x.image(), 3);
     x.hours(5);
     due("47: that one", x.restore(), 3);
-    FasterForTheRich y = new FasterForTheRich();
-    due("46: of nobody", y.image(), 0);
-    y.person(5, 3, 9);
-    due("47: of nobody", y.restore(), 0);
-    due("47: nobody", y.count(0), 0);
-    due("47: who comes then has all at first", y.person(0, 1, 2), 0);
-    due("47: HOLDS", y.personOf(0, 2), 2);
-    due("47: CANDLE", y.personOf(0, 4), 50);
+    imageOfNobody();
+  }
+
+  // What those who are gone had must be told of nobody, and be left to nobody who comes.
+  private static void imageOfNobody() {
+    FasterForTheRich x = new FasterForTheRich();
+    due("46: of nobody", x.image(), 0);
+    town(x, "p5309;p5309;h088;t01;l0;n02;l0;");
+    due("47: of nobody", x.restore(), 0);
+    int[] nothing = {0, 0, 0, 0, 0, 0};
+    for (int what = 0; what < 6; what++) due("47: of nobody, count(" + what + ")", x.count(what), nothing[what]);
+    due("47: nobody", x.personOf(0, 0), -1);
+    due("47: one comes", x.person(0, 1, 2), 0);
+    int[] first = {0, 1, 2, 0, 50, 0, 0, -9, 2, 1, 0};
+    for (int what = 0; what < 11; what++) due("47: at first, what " + what, x.personOf(0, what), first[what]);
+    due("47: HOLDS of one", x.count(3), 2);
   }
 }

@@ -24,7 +24,7 @@ public final class LanguageTest extends Due {
     staticFieldsAreFinal(code);
     newInConstructorsAlone(code);
     shortMethods(code);
-    Matcher classes = Pattern.compile("\\bclass \\w+ \\{").matcher(code);
+    Matcher classes = Pattern.compile("\\bclass \\w+ (?:extends \\w+ )?\\{").matcher(code);
     int many = 0;
     while (classes.find()) many++;
     dueTrue("some twelve classes at most, not " + many, many > 1 && many <= 12);

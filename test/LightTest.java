@@ -23,6 +23,10 @@ public final class LightTest extends Due {
     x = of("p5000;");
     due("25: RELAY of one", x.relay(0), 50);
     due("25: PAIRED alone", x.relay(1), 0);
+    x.sets(0, 2, 0);
+    due("25: PAIRED without light", x.relay(1), 0);
+    due("25: RELAY without light", x.relay(0), 0);
+    due("25: PAIRED without PEOPLE", new FasterForTheRich().relay(1), 0);
   }
 
   private static void tax() {
@@ -79,6 +83,8 @@ public final class LightTest extends Due {
     due("39: who is LIT is not", x.unlit(), 12);
     x.lights(0);
     due("39: who is LIT no more is", x.unlit(), 13);
+    x.sets(3, 2, 1);
+    due("39: CANDLE 1 is", x.unlit(), 13);
     due("39: nobody", new FasterForTheRich().unlit(), 0);
   }
 
@@ -92,6 +98,10 @@ public final class LightTest extends Due {
     due("40: the MISER's 6 of 9 a time", x.gap(12), 3);
     due("40: below", x.gap(0), -4);
     due("40: above", x.gap(13), -6);
+    x = of("p5000;p0080;c002;c101;");
+    due("40: by 99, not by 100, 11 of 12: 10 more, as the other", x.gap(12), 0);
+    x.sets(1, 2, 0);
+    due("40: 11 more", x.gap(12), 1);
     x = of("p5000;p5000;p5000;c102;c202;");
     due("40: of several the least", x.gap(5), 1);
     due("40: nobody", new FasterForTheRich().gap(5), -9);

@@ -99,6 +99,10 @@ public final class MindTest extends Due {
   private static void longestOfSeveral() {
     FasterForTheRich x = of("p5000;p5000;p5000;c020;l1;l2;");
     due("16: GUTTERS, of several the least", x.longest(3), 1);
+    x.lights(1);
+    x.sets(2, 2, 99);
+    due("16: GUTTERS behind 99", x.longest(3), 2);
+    x = of("p5000;p5000;p5000;c020;");
     due("16: LONGEST, of several the least", x.longest(0), 1);
     x = of("p0000;c000;");
     due("16: LONGEST with CANDLE 0", x.longest(0), 0);
@@ -129,6 +133,10 @@ public final class MindTest extends Due {
     x = of("p0010;p0000;c010;");
     due("17: 5 HOURS with all of it", x.give(0, 1, 5), 0);
     due("17: 1 coin", x.give(0, 1, 10), 1);
+    x = of("p0010;p0000;h009;");
+    due("17: to the last coin", x.give(0, 1, 50), 10);
+    x = of("p0010;p0000;h010;");
+    due("17: what he hides stays", x.give(0, 1, 50), -9);
   }
 
   private static void bestFriend() {
@@ -148,6 +156,8 @@ public final class MindTest extends Due {
     due("18: of several the least", x.bestFriend(0, 0), 1);
     due("18: that is 0", x.bestFriend(0, 1), 0);
     due("18: of several the least, himself left out", x.bestFriend(1, 0), 0);
+    x = of("p0060;p5000;h009;c150;");
+    due("18: he gives to the last coin", x.bestFriend(0, 1), 100);
   }
 
   private static void both() {
@@ -169,12 +179,22 @@ public final class MindTest extends Due {
     x.sets(0, 2, 0);
     due("19: the fewest where it is all the same", x.both(0, 1, 0), 0);
     due("19: that is 0", x.both(0, 1, 1), 0);
+    x = of("p0010;p5000;h009;");
+    due("19: to the last coin", x.both(0, 1, 0), 10);
   }
 
   private static void borrow() {
     FasterForTheRich x = of(SIX);
     int[] less = {3, 1, 17, 0, 0, 0};
     for (int i = 0; i < 6; i++) due("20: BORROW of " + i, x.borrow(i), less[i]);
+    x.sets(0, 0, 39);
+    due("20: 10 more of 39", x.borrow(0), 3);
+    x.sets(0, 0, 29);
+    x.sets(3, 0, 0);
+    due("20: 10 more, not 11", x.borrow(0), 4);
+    due("20: a MISER's", x.borrow(3), 1);
+    x.sets(0, 0, 30);
+    x.sets(3, 0, 20);
     due("20: nobody", x.borrow(6), 1000000001);
     due("20: nobody below", x.borrow(-1), 1000000001);
     due("20: counted as -1", x.count(11), 2);

@@ -56,6 +56,9 @@ public final class NightTest extends Due {
     due("22: what above", x.nightOfAll(5, 2), -2);
     due("22: what below", x.nightOfAll(5, -1), -2);
     due("22: below ahead of what", x.nightOfAll(0, 2), -4);
+    x = of("p0000;p5000;c000;");
+    due("22: CANDLE 0 is not LIT at dusk", x.nightOfAll(5, 0), 5);
+    due("21: who has none reads none", x.night(0, 5, 2), 0);
     x = new FasterForTheRich();
     due("22: nobody loses", x.nightOfAll(12, 1), 0);
   }
@@ -83,6 +86,12 @@ public final class NightTest extends Due {
   private static void trustNotTheLeast() {
     FasterForTheRich x = of("p0050;p0010;p0000;t10;");
     due("23: not who gives it back", x.trust(0, 12), 2);
+    x = of("p0050;p5000;c001;c103;");
+    due("23: of two in 1 HOUR none", x.trust(0, 1), 9);
+    x.sets(0, 2, 3);
+    due("23: of two, the other", x.trust(0, 3), 1);
+    due("23: the other none", x.trust(1, 3), 9);
+    x = of("p0050;p0010;p0000;t10;");
     due("23: 8 HOURS: none", x.trust(0, 8), 9);
     due("23: 9 HOURS", x.trust(0, 9), 2);
   }

@@ -65,6 +65,13 @@ public final class PeopleTest extends Due {
     due("5: a MISER", x.person(3, 9, 4), 4);
     due("4: a MISER of 4 burns 1", x.personOf(4, 9), 1);
     due("4: a MISER of FIGURE 9 is not HONEST", x.personOf(4, 10), 0);
+    x.sets(1, 0, 20);
+    x.sets(1, 1, 1);
+    due("4: half, cut, of 21 less 4", x.personOf(1, 8), 6);
+    x.sets(1, 0, 8);
+    due("4: half, cut, of 9 less 4", x.personOf(1, 8), 0);
+    x.sets(1, 0, 11);
+    due("4: half of 12 less 4", x.personOf(1, 8), 2);
     due("5: an OWNER of FIGURE 3", x.person(0, 3, 99), 5);
     due("4: he is not HONEST", x.personOf(5, 10), 0);
     due("4: nobody", x.personOf(6, 0), -1);

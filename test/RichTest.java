@@ -21,6 +21,12 @@ public final class RichTest extends Due {
     x = of("p0010;p0020;p1010;p5000;p0000;");
     due("33: RICHEST, of several the least", x.richest(0), 1);
     due("33: POOREST, of several the least", x.richest(1), 3);
+    x = of("p0010;p0011;p0009;");
+    due("33: RICHEST by 1", x.richest(0), 1);
+    due("33: POOREST by 1", x.richest(1), 2);
+    x = of("p0010;");
+    due("33: RICHEST alone", x.richest(0), 0);
+    due("33: POOREST alone", x.richest(1), 0);
     x = new FasterForTheRich();
     due("33: nobody is RICHEST", x.richest(0), -9);
     due("33: nobody is POOREST", x.richest(1), -9);
@@ -39,6 +45,9 @@ public final class RichTest extends Due {
     x = of("p0010;p0020;p0004;p0000;");
     due("34: lowest terms of 34 over 4", x.mean(0), 17);
     due("34: lowest terms of 34 over 4, below", x.mean(1), 2);
+    x = of("p0017;");
+    due("34: of one", x.mean(0), 17);
+    due("34: of one, below", x.mean(1), 1);
     x = of("p0000;p0000;p0000;");
     due("34: 0", x.mean(0), 0);
     due("34: over 1", x.mean(1), 1);

@@ -115,6 +115,11 @@ public final class RowTest extends Due {
     x.sets(3, 1, 99);
     due("28: 1 plus a fifth of 198 and more is 50", x.whatHeHolds(3, 1), 47);
     due("28: 47 .. 99", x.whatHeHolds(3, 0), 53);
+    row(x, 99, 93);
+    due("28: 97 .. 99 by FIGURE 1 less", x.whatHeHolds(2, 0), 0);
+    x.sets(2, 1, 5);
+    due("28: 99 alone", x.whatHeHolds(2, 0), 1);
+    due("28: 99", x.whatHeHolds(2, 1), 99);
     x.hours(1);
     row(x, 46, 42);
     due("28: CANDLE as it is now", x.whatHeHolds(0, 0), 10);
@@ -133,6 +138,8 @@ public final class RowTest extends Due {
     x.sets(5, 0, 9);
     x.sets(1, 0, 0);
     due("29: by none or by 9", x.whoGave(0), 34);
+    row(x, 50, 49);
+    due("29: to the PAUPER, whoever it was", x.whoGave(5), 31);
     row(x, 49);
     due("29: not his CANDLE", x.whoGave(0), 0);
     due("29: nobody", x.whoGave(6), -1);

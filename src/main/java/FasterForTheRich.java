@@ -2,7 +2,8 @@
  * People of kinds with what they hold and hide, and candles that burn faster for the rich.
  *
  * <p>The public methods refuse what the document refuses and then ask one of the classes inside: Town (all that there
- * is), Kinds (what differs from kind to kind), History (what can be taken back), Letters (a town told) and Row.
+ * is), Kinds (what differs from kind to kind), History (what can be taken back), Letters (a town told) and Row (candles
+ * told).
  */
 public final class FasterForTheRich {
   // What a refused call answers.
@@ -408,10 +409,14 @@ public final class FasterForTheRich {
   }
 
   private int pagesTrusting(int person, int cousin, int n) {
+    nightTrusting(person, cousin, n);
+    return mind.pages[person] - now.pages[person];
+  }
+
+  private void nightTrusting(int person, int cousin, int n) {
     mind.become(now);
     mind.cousin[person] = cousin;
     mind.passNight(n);
-    return mind.pages[person] - now.pages[person];
   }
 
   public int safe(int person, int n) {
@@ -429,9 +434,7 @@ public final class FasterForTheRich {
   }
 
   private boolean losesNothing(int person, int cousin, int n) {
-    mind.become(now);
-    mind.cousin[person] = cousin;
-    mind.passNight(n);
+    nightTrusting(person, cousin, n);
     return mind.holds[person] >= now.holds[person];
   }
 
@@ -1204,19 +1207,13 @@ public final class FasterForTheRich {
     }
   }
 
-  /** Letters that tell a town. */
-  static final class Letters {
-    private static final int MOST = 96;
-    private static final int FORM = -1000;
-    private static final int SENSE = -2000;
-    // What may come next: a statement's first letter, or, of digits still due, so many; at 0 of these ";".
-    private static final int START = -1;
-    private static final int NO_WAY = -2;
-    private final int[] signs;
-    private int size;
+  /** Numbers that come one by one, so many at the most. */
+  static class Numbers {
+    final int[] numbers;
+    int size;
 
-    Letters() {
-      signs = new int[MOST];
+    Numbers(int most) {
+      numbers = new int[Math.max(0, most)];
       size = 0;
     }
 
@@ -1225,26 +1222,40 @@ public final class FasterForTheRich {
     }
 
     boolean isFull() {
-      return size >= MOST;
+      return size >= numbers.length;
     }
 
     void forget() {
       size = 0;
     }
 
-    int append(int letter) {
+    int append(int v) {
       if (!isFull()) {
-        signs[size] = letter;
+        numbers[size] = v;
         size++;
       }
       return size;
+    }
+  }
+
+  /** Letters that tell a town. */
+  static final class Letters extends Numbers {
+    private static final int MOST = 96;
+    private static final int FORM = -1000;
+    private static final int SENSE = -2000;
+    // What may come next: a statement's first letter, or, of digits still due, so many; at 0 of these ";".
+    private static final int START = -1;
+    private static final int NO_WAY = -2;
+
+    Letters() {
+      super(MOST);
     }
 
     // A fault of kind 1, or 0.
     int faultOfForm() {
       int due = START;
       for (int at = 0; at < size; at++) {
-        due = dueBehind(due, signs[at]);
+        due = dueBehind(due, numbers[at]);
         if (due == NO_WAY) {
           return FORM - at;
         }
@@ -1278,7 +1289,7 @@ public final class FasterForTheRich {
     int tellTo(Town town) {
       int statements = 0;
       for (int at = 0; at < size; at++) {
-        if (at == 0 || signs[at - 1] == ';') {
+        if (at == 0 || numbers[at - 1] == ';') {
           if (!comes(town, at)) {
             return SENSE - at;
           }
@@ -1291,7 +1302,7 @@ public final class FasterForTheRich {
     // Whether the statement at a place is as it must be: then it has come to the town.
     private boolean comes(Town town, int at) {
       int one = digit(at + 1);
-      switch (at >= 0 && at < size ? signs[at] : 0) {
+      switch (at >= 0 && at < size ? numbers[at] : 0) {
         case 'p': return comesPerson(town, one, digit(at + 2), twoDigits(at + 3));
         case 'h': return comesHides(town, one, twoDigits(at + 2));
         case 'c': return comesCandle(town, one, twoDigits(at + 2));
@@ -1348,7 +1359,7 @@ public final class FasterForTheRich {
     }
 
     private int digit(int at) {
-      return at >= 0 && at < size ? signs[at] - '0' : 0;
+      return at >= 0 && at < size ? numbers[at] - '0' : 0;
     }
 
     private int twoDigits(int at) {
@@ -1356,35 +1367,12 @@ public final class FasterForTheRich {
     }
   }
 
-  /** Numbers told one by one. */
-  static final class Row {
+  /** Numbers that tell candles, by hours or by people. */
+  static final class Row extends Numbers {
     private static final int MOST = 12;
-    private final int[] numbers;
-    private int size;
 
     Row() {
-      numbers = new int[MOST];
-      size = 0;
-    }
-
-    int size() {
-      return size;
-    }
-
-    boolean isFull() {
-      return size >= MOST;
-    }
-
-    void forget() {
-      size = 0;
-    }
-
-    int append(int v) {
-      if (!isFull()) {
-        numbers[size] = v;
-        size++;
-      }
-      return size;
+      super(MOST);
     }
 
     // Whether it tells a lit candle behind 0, 1, .. hours.
