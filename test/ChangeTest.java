@@ -76,13 +76,7 @@ public final class ChangeTest extends Due {
   /** 0 HOLDS so much; the others are a DEBTOR and a MISER of FIGURE 0. */
   private static FasterForTheRich rich(int coins) {
     FasterForTheRich x = of("p0000;p2000;p3000;");
-    int left = coins;
-    while (left > 0) {
-      int part = Math.min(99, left);
-      x.sets(1, 0, part);
-      x.gives(1, 0, part);
-      left -= part;
-    }
+    bring(x, 1, 0, coins);
     return x;
   }
 
@@ -156,10 +150,7 @@ public final class ChangeTest extends Due {
   // 1 (a DEBTOR who is not HONEST) keeps half of 2's 99 and gets back all his 990 of 0 (an OWNER who is).
   private static void dawnAtMost999() {
     FasterForTheRich x = of("p0900;p2000;p3000;");
-    for (int i = 0; i < 10; i++) {
-      x.sets(2, 0, 99);
-      x.gives(2, 1, 99);
-    }
+    bring(x, 2, 1, 990);
     x.sets(2, 0, 99);
     x.trusts(1, 0);
     x.trusts(2, 1);

@@ -44,6 +44,14 @@ class Due {
     return x;
   }
 
+  /** So many coins more for one, by 99 at most, from another one, who HOLDS none then. */
+  static void bring(FasterForTheRich x, int from, int to, int coins) {
+    for (int left = coins; left > 0; left -= Math.min(99, left)) {
+      x.sets(from, 0, Math.min(99, left));
+      x.gives(from, to, Math.min(99, left));
+    }
+  }
+
   static void row(FasterForTheRich x, int... numbers) {
     x.clear();
     for (int number : numbers) {

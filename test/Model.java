@@ -70,6 +70,17 @@ public final class Model {
       return other;
     }
 
+    /** The same one with coins more: nobody HOLDS above 999, what is above is lost. */
+    Owner given(int coins) {
+      Owner other = copy();
+      other.gets(coins);
+      return other;
+    }
+
+    void gets(int coins) {
+      for (int coin = 0; coin < coins && holds < 999; coin++) holds++;
+    }
+
     void burn() {
       if (!lit) return;
       if (pages < 999) pages++;
@@ -170,7 +181,7 @@ public final class Model {
         if (one.cousin < 0) continue;
         one.gave = one.holds;
         one.holds = 0;
-        put(at(one.cousin), one.gave);
+        at(one.cousin).gets(one.gave);
       }
       for (Owner one : people) one.lit = one.candle > 0;
       hours(n);
@@ -180,13 +191,9 @@ public final class Model {
         Owner from = at(one.cousin);
         int back = Math.min(from.honest() ? one.gave : one.gave / 2, from.holds);
         from.holds -= back;
-        put(one, back);
+        one.gets(back);
       }
       for (Owner one : people) one.lit = false;
-    }
-
-    static void put(Owner one, int coins) {
-      one.holds = Math.min(999, one.holds + coins);
     }
 
     int holds() { return people.stream().mapToInt(one -> one.holds).sum(); }
@@ -484,7 +491,7 @@ public final class Model {
     one(person);
     what(what, 1);
     IntUnaryOperator together = i ->
-        now.at(person).holding(0).lasts() + now.at(i).holding(now.at(i).holds + now.at(person).holds).lasts();
+        now.at(person).holding(0).lasts() + now.at(i).given(now.at(person).holds).lasts();
     int who = whoMost(i -> i != person, together);
     return what == 0 || who < 0 ? who : together.applyAsInt(who);
   }
@@ -497,7 +504,7 @@ public final class Model {
     int coins = 0;
     int best = -1;
     for (int v = a.holds; v >= 0; v--) {
-      int lesser = Math.min(a.holding(a.holds - v).lasts(), b.holding(b.holds + v).lasts());
+      int lesser = Math.min(a.holding(a.holds - v).lasts(), b.given(v).lasts());
       if (lesser >= best) {
         best = lesser;
         coins = v;
@@ -509,7 +516,7 @@ public final class Model {
   public int borrow(int person) {
     one(person);
     Owner p = now.at(person);
-    return p.lasts() - p.holding(p.holds + 10).lasts();
+    return p.lasts() - p.given(10).lasts();
   }
 
   public int night(int person, int n, int what) {
@@ -619,7 +626,7 @@ public final class Model {
   public int whoGave(int person) {
     one(person);
     Owner p = now.at(person);
-    return bits(now.size(), i -> i != person && tells(p.holding(p.holds + now.at(i).holds)));
+    return bits(now.size(), i -> i != person && tells(p.given(now.at(i).holds)));
   }
 
   public int halve(int one, int other) {
@@ -637,10 +644,8 @@ public final class Model {
   }
 
   private static int halved(Owner own, Owner his, int gives, int gets) {
-    int holds = own.holds;
-    if (gives == 1 && own.holds > 0) holds--;
-    if (gets == 1 && his.holds > 0) holds++;
-    return own.holding(holds).lasts();
+    Owner left = gives == 1 && own.holds > 0 ? own.holding(own.holds - 1) : own;
+    return left.given(gets == 1 && his.holds > 0 ? 1 : 0).lasts();
   }
 
   public long draft(int person, int n, int t, int part) {

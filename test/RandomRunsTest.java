@@ -93,6 +93,8 @@ public final class RandomRunsTest {
       pile(ofProgram, ofModel);
     } else if (style == 1 && kind < 5) {
       spend(ofProgram, ofModel);
+    } else if (style == 2 && kind < 3) {
+      fill(ofProgram, ofModel);
     } else if (kind == 7) {
       feed(ofProgram, ofModel, draw(4) == 0 ? anyText() : likelyText());
       call(ofProgram, ofModel, placeOf("town"));
@@ -109,6 +111,29 @@ public final class RandomRunsTest {
     call(ofProgram, ofModel, placeOf("sets"), from, 0, 99);
     call(ofProgram, ofModel, placeOf("gives"), from, to, model.peek(from, 2));
     if (draw(8) == 0) call(ofProgram, ofModel, placeOf("trusts"), draw(6), to);
+  }
+
+  // One comes to HOLD 980 and more, with a CANDLE by which it is seen in mind whether 999 are the most.
+  private void fill(Method[] ofProgram, Method[] ofModel) throws Exception {
+    int from = draw(6);
+    int to = draw(6);
+    int most = 980 + draw(20);
+    for (int i = 0; i < 11 && model.peek(to, 2) < most; i++) {
+      call(ofProgram, ofModel, placeOf("sets"), from, 0, 99);
+      call(ofProgram, ofModel, placeOf("gives"), from, to, Math.min(99, most - model.peek(to, 2)));
+    }
+    call(ofProgram, ofModel, placeOf("sets"), from, 0, draw(2) == 0 ? 10 * draw(10) : draw(100));
+    if (draw(2) == 0) call(ofProgram, ofModel, placeOf("sets"), from, 2, 1 + draw(25));
+    call(ofProgram, ofModel, placeOf("sets"), to, 2, model.peek(to, 9) + draw(8));
+    call(ofProgram, ofModel, placeOf("bestFriend"), from, draw(2));
+    call(ofProgram, ofModel, placeOf("both"), from, to, draw(2));
+    call(ofProgram, ofModel, placeOf("borrow"), to);
+    call(ofProgram, ofModel, placeOf("halve"), from, to);
+    call(ofProgram, ofModel, placeOf("halve"), to, from);
+    call(ofProgram, ofModel, placeOf("clear"));
+    call(ofProgram, ofModel, placeOf("row"), model.peek(to, 4));
+    call(ofProgram, ofModel, placeOf("row"), Math.max(0, model.peek(to, 4) - model.peek(to, 9)));
+    call(ofProgram, ofModel, placeOf("whoGave"), to);
   }
 
   // Hours go by fast, so that hour 999 and page 999 are reached.

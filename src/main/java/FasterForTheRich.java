@@ -332,7 +332,7 @@ public final class FasterForTheRich {
 
   // Both LASTS together when one has given another all he HOLDS.
   private int lastsTogether(int one, int other) {
-    return now.lastsHolding(one, 0) + now.lastsHolding(other, now.holds[other] + now.holds[one]);
+    return now.lastsHolding(one, 0) + now.lastsWithMore(other, now.holds[one]);
   }
 
   public int both(int one, int other, int what) {
@@ -345,7 +345,7 @@ public final class FasterForTheRich {
     int greatest = -1;
     for (int coins = 0; coins <= holds; coins++) {
       int own = now.lastsHolding(one, holds - coins);
-      int his = now.lastsHolding(other, now.holds[other] + coins);
+      int his = now.lastsWithMore(other, coins);
       if (Math.min(own, his) > greatest) {
         greatest = Math.min(own, his);
         fewest = coins;
@@ -359,7 +359,7 @@ public final class FasterForTheRich {
     if (why != 0) {
       return BORROW_REFUSED - refuse(why);
     }
-    return now.lastsOf(person) - now.lastsHolding(person, now.holds[person] + BORROWED);
+    return now.lastsOf(person) - now.lastsWithMore(person, BORROWED);
   }
 
   // ---- A night in mind ----
@@ -573,7 +573,7 @@ public final class FasterForTheRich {
     }
     int bits = 0;
     for (int i = 0; i < now.people; i++) {
-      if (i != person && holdsFit(person, now.holds[person] + now.holds[i])) {
+      if (i != person && holdsFit(person, now.holdsWithMore(person, now.holds[i]))) {
         bits |= 1 << i;
       }
     }
@@ -605,7 +605,8 @@ public final class FasterForTheRich {
   private int lastsHalving(int one, int other, int own, int his) {
     int gives = Math.min(own, now.holds[one]);
     int gets = Math.min(his, now.holds[other]);
-    return now.lastsHolding(one, now.holds[one] - gives + gets);
+    // What he gives and what he gets go at once: at the most that one can hold they are weighed together.
+    return now.lastsWithMore(one, gets - gives);
   }
 
   public long draft(int person, int n, int t, int part) {
@@ -1043,6 +1044,11 @@ public final class FasterForTheRich {
       cousin[one] = cousin[one] == other ? NO_COUSIN : other;
     }
 
+    // What one would hold with coins more, in mind as at dusk and dawn: what is above the most is lost.
+    int holdsWithMore(int i, int coins) {
+      return Math.min(MOST_COINS, holds[i] + coins);
+    }
+
     int wealthOf(int i) {
       return Kinds.wealth(kind[i], figure[i], holds[i], hides[i]);
     }
@@ -1058,6 +1064,10 @@ public final class FasterForTheRich {
 
     int lastsOf(int i) {
       return lastsHolding(i, holds[i]);
+    }
+
+    int lastsWithMore(int i, int coins) {
+      return lastsHolding(i, holdsWithMore(i, coins));
     }
 
     int lastsHolding(int i, int coins) {
@@ -1102,7 +1112,7 @@ public final class FasterForTheRich {
         if (has(to)) {
           gave[i] = holds[i];
           holds[i] = 0;
-          holds[to] = Math.min(MOST_COINS, holds[to] + gave[i]);
+          holds[to] = holdsWithMore(to, gave[i]);
         }
         lit[i] = candle[i] > 0;
       }
@@ -1115,7 +1125,7 @@ public final class FasterForTheRich {
           int due = isHonest(from) ? gave[i] : gave[i] / 2;
           int gets = Math.min(due, holds[from]);
           holds[from] -= gets;
-          holds[i] = Math.min(MOST_COINS, holds[i] + gets);
+          holds[i] = holdsWithMore(i, gets);
         }
         lit[i] = false;
       }
