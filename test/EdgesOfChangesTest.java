@@ -195,6 +195,8 @@ public final class EdgesOfChangesTest extends Edges {
     edge("46: HOUR", TWO, "hours 7", "image = 7");
     edge("46: HOUR 999", TWO, "10 times hours 99", "hours 9", "image = 999", "restore = 999", "hours 1 refused 6");
     edge("46: the later one alone", TWO, "image", "sets 0 0 5", "image", "sets 0 0 6", "restore", "personOf 0 2 = 5");
+    edge("46: letters, the ROW and REFUSALS stay", TWO, "feed 112", "row 5", "lasts 2", "image", "count 6 = 1",
+        "count 7 = 1", "count 11 = 1");
     edge("46: it is not changed by what comes", TWO, "image", "nights 3", "restore = 0", "personOf 0 4 = 50",
         "personOf 0 6 = 0");
   }
@@ -206,6 +208,11 @@ public final class EdgesOfChangesTest extends Edges {
         "restore", "personOf 0 2 = 0", "personOf 0 5 = 0", "personOf 0 7 = -9");
     edge("47: fewer people", "p0007;", "image", "tell p5999;t01; = 2", "restore", "count 0 = 1", "personOf 1 0 refused 1",
         "personOf 0 7 = -9", "person 0 0 0 = 1");
+    edge("47: nothing is told of those who are gone", "p0007;", "image", "tell p5999;h199;l1;n03;l1; = 5", "restore",
+        "count 2 = 0", "count 3 = 7", "count 4 = 50", "count 5 = 0");
+    edge("47: who comes in the place of one who is gone is as at first", "p0007;", "image",
+        "tell p5999;h199;t10;t01;l1;n03;l1; = 7", "restore", "person 0 0 0 = 1", "personOf 1 3 = 0", "personOf 1 4 = 50",
+        "personOf 1 5 = 0", "personOf 1 6 = 0", "personOf 1 7 = -9");
     edge("47: more people do not come of a FAULT", "p0007;", "image", "tell p5999;x = -1006", "restore", "count 0 = 1");
     edge("47: six people", "p5000;p5000;p5000;p5000;p5000;p5009;", "image", "sets 5 0 1", "restore", "count 0 = 6",
         "personOf 5 2 = 9", "person 0 0 0 refused 6");

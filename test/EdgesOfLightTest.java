@@ -68,7 +68,7 @@ public final class EdgesOfLightTest extends Edges {
     edge("30: the first pair, 10", "p0029;p0030;", "halve 0 1 = 10", "halve 1 0 = 1");
     edge("30: either would, at once one of them", "p0010;p0010;", "halve 0 1 = 1");
     edge("30: who HOLDS none gives none", "p0000;p0010;", "halve 0 1 = 1", "halve 1 0 = 10");
-    edge("30: who HOLDS none but HIDES gives none", "p0000;p0010;h010;", "halve 0 1 = 1");
+    edge("30: who HOLDS none but HIDES gives none", "p0000;p5000;h010;", "halve 0 1 = 0", "halve 1 0 = 0");
     edge("30: who HOLDS 1 gives 1", "p0001;p0000;h009;", "halve 0 1 = 10", "halve 1 0 = 1");
     edge("30: without light", "p0010;p0010;c000;c100;", "halve 0 1 = 0");
     edge("30: HOLDS 999 at most", "p2000;p0000;c051;", "bring 1 0 999", "sets 1 0 10", "halve 0 1 = 1");
@@ -132,7 +132,8 @@ public final class EdgesOfLightTest extends Edges {
     edge("40: the last of six", SIX_PAUPERS + "c500;", "gap 1 = 5");
     edge("40: 1 HOUR", TWO + "c001;c100;", "gap 1 = 1");
     edge("40: 12 HOURS", TWO + "c011;c110;", "gap 10 = 0", "gap 11 = 1", "gap 12 = 1");
-    edge("40: by CANDLE 99", "p0080;p5000;c102;", "sets 0 2 0", "gap 11 = 0", "gap 12 = 0");
+    edge("40: CANDLE 99, not 98: 8 more, not 7", "p5000;p3065;c005;c100;", "gap 12 = 1");
+    edge("40: CANDLE 99, not 100: 11 more, not 12", "p5000;p3040;c001;c100;", "gap 12 = 0");
     edge("40: PAGES 999 at most", "p5000;p5000;", TILL_990, "sets 1 2 2", "gap 11 = 0", "gap 12 = 1");
     edge("40: -4 1", TWO, "gap 0 refused 4", "gap -2147483648 refused 4");
     edge("40: -6 12", TWO, "gap 13 refused 6", "gap 2147483647 refused 6");

@@ -98,6 +98,7 @@ public final class EdgesOfMindTest extends Edges {
     edge("16: GUTTERS -9, nobody LIT", TWO, "longest 3 = -9");
     edge("16: GUTTERS, of several the least", "p5000;p0000;p5000;c010;l1;l2;", "longest 3 = 1");
     edge("16: GUTTERS, of those LIT now", "p5000;p5000;c001;l1;", "longest 3 = 1");
+    edge("16: GUTTERS, the last of six", "p5000;p5000;p5000;p5000;p5000;p0010;l0;l1;l2;l3;l4;l5;", "longest 3 = 5");
     edge("16: GUTTERS, behind 99", "p5000;p5000;c199;l1;", "longest 3 = 1");
     edge("16: GUTTERS, by LASTS, not by CANDLE", "p0099;p0000;c020;c103;l0;l1;", "longest 3 = 0");
   }
@@ -133,6 +134,8 @@ public final class EdgesOfMindTest extends Edges {
         "bestFriend 1 1 = 63");
     edge("18: of several the least", "p0030;p0000;p0000;", "bestFriend 0 0 = 1", "bestFriend 2 0 = 1");
     edge("18: the last of six", "p0030;p1000;p1000;p1000;p1000;p0000;", "bestFriend 0 0 = 5");
+    edge("18: all he HOLDS, to the last coin", "p0020;p5000;h009;", "bestFriend 0 1 = 100");
+    edge("18: all he HOLDS, not what he HIDES", "p0020;p5000;h010;", "bestFriend 0 1 = 75");
     edge("18: who HOLDS none", TWO, "bestFriend 0 1 = 100");
     edge("18: all without light", TWO + "p0000;c000;c100;c200;", "bestFriend 1 0 = 0", "bestFriend 1 1 = 0",
         "bestFriend 0 0 = 1");
@@ -162,7 +165,8 @@ public final class EdgesOfMindTest extends Edges {
   }
 
   private static void borrow() {
-    edge("20: 10 coins more", "p0000;c010;", "borrow 0 = 5");
+    edge("20: 10 coins more, no fewer", "p0000;c010;", "borrow 0 = 5");
+    edge("20: 10 coins more, no more", "p0009;c010;", "borrow 0 = 5");
     edge("20: 0, a PAUPER", "p5000;", "borrow 0 = 0");
     edge("20: 0, CANDLE 0", "p0030;c000;", "borrow 0 = 0");
     edge("20: 0, CANDLE 1", "p0030;c001;", "borrow 0 = 0");
@@ -183,6 +187,8 @@ public final class EdgesOfMindTest extends Edges {
     edge("21: HOUR above 999 is nothing in mind", READER, TILL_990, "night 1 12 2 = 12");
     edge("21: HOLDS 999 at most", "p5000;p5000;p5000;t20;t10;", "bring 1 0 980", "sets 1 0 30", "sets 2 0 40",
         "night 0 1 0 = 929", "night 1 1 0 = 30", "night 2 1 0 = 40");
+    edge("21: HOLDS 999 at most at dawn, too", "p0900;p2000;p3000;", "bring 2 1 990", "sets 2 0 99", "trusts 1 0",
+        "trusts 2 1", "night 2 1 0 = 49", "night 1 1 0 = 999", "night 0 1 0 = 0", "nightOfAll 1 1 = 41");
     edge("21: -1", TWO, "night 2 5 0 refused 1", "night -1 5 0 refused 1");
     edge("21: -4 1", TWO, "night 0 0 0 refused 4", "night 0 -2147483648 0 refused 4");
     edge("21: -6 12", TWO, "night 0 13 0 refused 6", "night 0 2147483647 0 refused 6");
