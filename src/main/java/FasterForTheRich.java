@@ -35,6 +35,9 @@ public final class FasterForTheRich {
   private static final int MOST_LETTER = 255;
   private static final int NO_COUSIN = -1;
 
+  // Two longs have their common divisor in fewer than a hundred steps; the bound only shows that the loop ends.
+  private static final int MOST_STEPS = 1000;
+
   private static final int BORROWED = 10;
   private static final int DRAFT_BURNS = 2;
   private static final int LOT_BELOW = 60;
@@ -124,7 +127,7 @@ public final class FasterForTheRich {
   }
 
   public int sets(int person, int what, int v) {
-    int why = first(whyPerson(person), whyWhat(what, 2), whyRange(v, 0, MOST_TOLD));
+    int why = firstOf(whyPerson(person), whyWhat(what, 2), whyRange(v, 0, MOST_TOLD));
     if (why != 0) {
       return refuse(why);
     }
@@ -219,7 +222,7 @@ public final class FasterForTheRich {
   // ---- Hours on, in mind ----
 
   public int behind(int person, int n, int what) {
-    int why = first(whyPerson(person), whyRange(n, 0, MOST_HOURS), whyWhat(what, 2));
+    int why = firstOf(whyPerson(person), whyRange(n, 0, MOST_HOURS), whyWhat(what, 2));
     if (why != 0) {
       return refuse(why);
     }
@@ -365,7 +368,7 @@ public final class FasterForTheRich {
   // ---- A night in mind ----
 
   public int night(int person, int n, int what) {
-    int why = first(whyPerson(person), whyRange(n, 1, MOST_NIGHT), whyWhat(what, 2));
+    int why = firstOf(whyPerson(person), whyRange(n, 1, MOST_NIGHT), whyWhat(what, 2));
     if (why != 0) {
       return refuse(why);
     }
@@ -650,7 +653,7 @@ public final class FasterForTheRich {
   private static long partOf(long above, long below, int part) {
     long one = above;
     long other = below;
-    while (other != 0) {
+    for (int step = 0; step < MOST_STEPS && other != 0; step++) {
       long rest = one % other;
       one = other;
       other = rest;
@@ -919,7 +922,7 @@ public final class FasterForTheRich {
     return one != 0 ? one : two;
   }
 
-  private static int first(int one, int two, int three) {
+  private static int firstOf(int one, int two, int three) {
     return first(one, first(two, three));
   }
 
@@ -1218,7 +1221,7 @@ public final class FasterForTheRich {
   }
 
   /** Numbers that come one by one, so many at the most. */
-  static class Numbers {
+  abstract static class Numbers {
     final int[] numbers;
     int size;
 
